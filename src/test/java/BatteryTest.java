@@ -4,6 +4,8 @@ final class BatteryTest {
         deadFromTheBeginning();
         wrongDead();
         allIsKept();
+        lossesAndLiesAreTakenBack();
+        spanAheadIsKept();
         notKept();
         pulsesAreNotTakenBack();
         settlingGoesOn();
@@ -66,6 +68,40 @@ final class BatteryTest {
         Check.due("shown was above 0 once", shown > 0, true);
         x.dead(2);
         Check.dueMark("dead once more", x, 1, 37, 157, 20008, 20028, 9 + 1 + 9 + 1 + 2);
+    }
+
+    private static void lossesAndLiesAreTakenBack() {
+        TripReckoner x = new TripReckoner();
+        x.tells(100);
+        x.keep();
+        x.tells(20);
+        x.drive(0, 10000, 1);
+        Check.due("a loss", x.count(1), 1);
+        Check.due("a lie", x.count(2), 1);
+        x.dead(1);
+        Check.due("no loss", x.count(1), 0);
+        Check.due("no lie", x.count(2), 0);
+    }
+
+    /** The refill that was kept is settled by the span ahead of it, not of the one taken back. */
+    private static void spanAheadIsKept() {
+        TripReckoner x = new TripReckoner();
+        x.car(25500, 20, 10);
+        x.tells(20);
+        x.tells(100);
+        x.keep();
+        x.tells(200);
+        x.tells(205);
+        x.dead(1);
+        Check.due("refills", x.count(0), 1);
+        x.tells(105);
+        Check.due("least", x.refill(0, false), 9500 - 3100);
+        x.tells(88);
+        Check.due("greatest", x.refill(0, true), 9900 + 10 - 1000);
+        x.tells(200);
+        x.dead(1);
+        Check.due("the least as kept", x.refill(0, false), 9000 - 3100);
+        Check.due("the greatest as kept", x.refill(0, true), 11100 - 1000);
     }
 
     private static void notKept() {
@@ -141,6 +177,7 @@ final class BatteryTest {
         Check.due("the first is back", x.refill(0, false), first);
         for (int k = 0; k < 30; k++) {
             Check.due("refill " + k, x.refill(k, false), 100 * (50 + k) - 100);
+            Check.due("refill " + k, x.refill(k, true), 100 * (51 + k));
         }
     }
 

@@ -95,7 +95,11 @@ final class CarTest {
         }
         Check.due("no more pulses", x.gap(36000), false);
         x.car(50000, 20, 10);
-        Check.due("the pulses begin anew", x.gap(36000), true);
+        for (int i = 0; i < 13; i++) {
+            Check.due("the pulses begin anew", x.gap(36000), true);
+        }
+        Check.due("up to the limit", x.gap(32000), true);
+        Check.due("not beyond it", x.drive(1, 0, 1), false);
     }
 
     private static void untouched() {

@@ -7,6 +7,7 @@ final class DriveTest {
         gaps();
         pulsesLimit();
         floats();
+        lossToTheGround();
         touching();
         ranges();
         shownSteps();
@@ -110,6 +111,13 @@ final class DriveTest {
         x.drive(0, 10000, 1);
         Check.due("tells(180)", x.tells(180), 0);
         Check.dueSpan("what is common", x, 79411, 110000);
+    }
+
+    private static void lossToTheGround() {
+        TripReckoner x = new TripReckoner();
+        x.tells(128);
+        Check.due("a loss", x.tells(3), 2);
+        Check.dueSpan("0 at least behind a loss, too", x, 0, 50000 * 14 / 255);
     }
 
     private static void touching() {

@@ -132,5 +132,8 @@ final class MarksTest {
         Check.dueNone("greatest, a gap alone", () -> x.average(0, true, 0));
         x.drive(1, 0, 1);
         dueAverage("greatest, a pulse", x, true, 550000, 1);
+        x.car(50000, 1, 10);
+        x.drive(1, 1, 1);
+        dueAverage("the shortest way", x, true, 100000, 1);
     }
 }

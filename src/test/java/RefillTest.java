@@ -7,6 +7,7 @@ final class RefillTest {
         setDoesNot();
         betweenFloats();
         endOfSettling();
+        usedSinceTheLatest();
         latestThirty();
         Check.finish();
     }
@@ -103,6 +104,19 @@ final class RefillTest {
         Check.due("a float", z.tells(205), 0);
         dueRefill("not behind another refill", z, 0, 5900, 10100);
         dueRefill("that one is settled", z, 1, 19500 + 500 - 11100, 12100);
+    }
+
+    private static void usedSinceTheLatest() {
+        TripReckoner x = filled();
+        x.drive(0, 500, 1);
+        x.gap(10);
+        Check.due("another refill", x.tells(200), 1);
+        // 8400 to 10600 ahead of it.
+        dueRefill("the second", x, 1, 19000 - 10600, 21100 - 8400);
+        x.tells(203);
+        dueRefill("U from the second on", x, 1, 19300 - 10600, 21100 - 8400);
+        x.tells(190);
+        dueRefill("W from the second on", x, 1, 19300 - 10600, 20100 - 8400);
     }
 
     private static void latestThirty() {
