@@ -357,10 +357,10 @@ public final class TripReckoner {
         }
 
         private void settle() {
-            if (!settling || refills < 1) {
+            if (!settling) {
                 return;
             }
-            int place = (refills - 1) % REFILLS_TOLD;
+            int place = placeOf(refills - 1);
             long least = spanLeast + usedLeast - aheadGreatest;
             long greatest = spanGreatest + usedMost - aheadLeast;
             // Only the nearer one is taken, so each fits an int again.
@@ -368,8 +368,13 @@ public final class TripReckoner {
             amountsGreatest[place] = (int) Math.min(amountsGreatest[place], greatest);
         }
 
+        /** A place in the rows for any number, since it is used as an index. */
+        private static int placeOf(int refill) {
+            return Math.floorMod(refill, REFILLS_TOLD);
+        }
+
         private void takeRefill(int least, int greatest) {
-            int place = refills % REFILLS_TOLD;
+            int place = placeOf(refills);
             amountsLeast[place] = least - spanGreatest;
             amountsGreatest[place] = greatest - spanLeast;
             refills++;
@@ -410,7 +415,7 @@ public final class TripReckoner {
         }
 
         private int amount(int k, boolean greatest) {
-            int place = k % REFILLS_TOLD;
+            int place = placeOf(k);
             return greatest ? amountsGreatest[place] : amountsLeast[place];
         }
     }

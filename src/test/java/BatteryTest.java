@@ -1,43 +1,13 @@
 /** Promises 10 keep, 11 dead. */
 final class BatteryTest {
     public static void main(String[] args) {
-        deadFromTheBeginning();
-        wrongDead();
         allIsKept();
         lossesAndLiesAreTakenBack();
         spanAheadIsKept();
         notKept();
-        pulsesAreNotTakenBack();
         settlingGoesOn();
         refillsComeBack();
         Check.finish();
-    }
-
-    private static void deadFromTheBeginning() {
-        TripReckoner x = new TripReckoner();
-        x.drive(100, 500, 10);
-        x.tells(20);
-        x.tells(200);
-        Check.due("dead(2)", x.dead(2), true);
-        Check.dueSpan("as at the beginning", x, 0, 50000);
-        Check.dueMark("and a gap", x, 1, 0, 120, 0, 20, 2);
-        Check.due("one step", x.shown(), 1);
-        Check.due("no refills", x.count(0), 0);
-        Check.due("no jumps", x.count(3), 0);
-    }
-
-    private static void wrongDead() {
-        TripReckoner x = new TripReckoner();
-        x.keep();
-        x.tells(128);
-        int[] wrong = {0, -1, 36001, Integer.MIN_VALUE, Integer.MAX_VALUE};
-        for (int seconds : wrong) {
-            Check.due("dead(" + seconds + ")", x.dead(seconds), false);
-            Check.dueSpan("unchanged", x, 23137, 27254);
-        }
-        Check.due("shown unchanged", x.shown(), 1);
-        Check.due("dead(36000)", x.dead(36000), true);
-        Check.due("seconds", x.mark(0, 4), 36000);
     }
 
     private static void allIsKept() {
@@ -123,21 +93,6 @@ final class BatteryTest {
         Check.dueSpan("the least is less by the gap", x, 9986, 10000);
     }
 
-    private static void pulsesAreNotTakenBack() {
-        TripReckoner x = new TripReckoner();
-        x.bounds(200, 1, 1, 1);
-        for (int i = 0; i < 6; i++) {
-            x.gap(36000);
-        }
-        for (int i = 0; i < 7; i++) {
-            Check.due("dead " + i, x.dead(36000), true);
-        }
-        Check.due("pulses of one gap", x.mark(0, 1), 7200000);
-        Check.due("93600000 and 6400200", x.dead(32001), false);
-        Check.due("93600000 and 6400000", x.dead(32000), true);
-        Check.due("not one more", x.drive(1, 0, 1), false);
-    }
-
     private static void settlingGoesOn() {
         TripReckoner x = new TripReckoner();
         x.car(25500, 20, 10);
@@ -166,10 +121,10 @@ final class BatteryTest {
     private static void refillsComeBack() {
         TripReckoner x = new TripReckoner();
         x.car(25500, 20, 0);
-        fill(x, 30);
+        Cars.fill(x, 30);
         x.keep();
         long first = x.refill(0, false);
-        fill(x, 45);
+        Cars.fill(x, 45);
         Check.due("75 refills", x.count(0), 75);
         Check.dueNone("the 44th is told no more", () -> x.refill(44, false));
         x.dead(1);
@@ -178,13 +133,6 @@ final class BatteryTest {
         for (int k = 0; k < 30; k++) {
             Check.due("refill " + k, x.refill(k, false), 100 * (50 + k) - 100);
             Check.due("refill " + k, x.refill(k, true), 100 * (51 + k));
-        }
-    }
-
-    private static void fill(TripReckoner x, int times) {
-        for (int i = 0; i < times; i++) {
-            x.tells(0);
-            x.tells(50 + i);
         }
     }
 }

@@ -1,13 +1,11 @@
-/** Promises 1 a new object, 4 car, 5 bounds. */
+/** Promises 1 a new object, 4 car. */
 final class CarTest {
     public static void main(String[] args) {
         newObject();
-        wrongCars();
         anew();
         keptAnew();
         pulsesAnew();
         untouched();
-        boundsEdges();
         Check.finish();
     }
 
@@ -28,21 +26,6 @@ final class CarTest {
         x.tells(255);
         Check.dueSpan("SLOP 10", x, 50000 * 245 / 255, 50000);
         Check.due("HIGH 120", x.range(false), 50000 * 245 / 255 / 120);
-    }
-
-    private static void wrongCars() {
-        TripReckoner x = new TripReckoner();
-        x.tells(100);
-        int[][] wrong = {{999, 20, 10}, {120001, 20, 10}, {-1, 20, 10}, {50000, 0, 10}, {50000, 1001, 10},
-            {50000, 20, -1}, {50000, 20, 61}, {Integer.MIN_VALUE, 20, 10}, {Integer.MAX_VALUE, 20, 10}};
-        for (int[] w : wrong) {
-            Check.due("car " + w[0] + " " + w[1] + " " + w[2], x.car(w[0], w[1], w[2]), false);
-        }
-        Check.dueSpan("unchanged", x, 50000 * 90 / 255, 50000 * 111 / 255);
-        Check.due("smallest car", x.car(1000, 1, 0), true);
-        Check.dueSpan("smallest car", x, 0, 1000);
-        Check.due("greatest car", x.car(120000, 1000, 60), true);
-        Check.dueSpan("greatest car", x, 0, 120000);
     }
 
     private static void anew() {
@@ -115,29 +98,5 @@ final class CarTest {
         Check.due("the plan stays", x.buys(0), 2);
         x.gap(2);
         Check.dueMark("the bounds stay", x, 0, 0, 14, 0, 6, 2);
-    }
-
-    private static void boundsEdges() {
-        TripReckoner x = new TripReckoner();
-        int[][] wrong = {{0, 1, 1, 1}, {201, 1, 1, 1}, {1, 0, 1, 1}, {1, 101, 1, 1}, {1, 1, 0, 1},
-            {1, 1, 2, 1}, {1, 1, 1, 1001}, {1, 1, 1001, 1001}, {1, 1, -5, -3}, {-1, 1, 1, 1},
-            {Integer.MIN_VALUE, 1, 1, 1}, {1, Integer.MAX_VALUE, 1, 1}, {1, 1, 0, 0}};
-        for (int[] w : wrong) {
-            Check.due("bounds " + w[0] + " " + w[1] + " " + w[2] + " " + w[3],
-                x.bounds(w[0], w[1], w[2], w[3]), false);
-        }
-        Check.due("LOW unchanged", x.range(true), 1250);
-        x.gap(1);
-        Check.dueMark("FAST, THIRST unchanged", x, 0, 0, 60, 0, 10, 1);
-        Check.due("smallest bounds", x.bounds(1, 1, 1, 1), true);
-        x.set(0);
-        x.gap(1);
-        Check.dueMark("smallest bounds", x, 0, 0, 1, 0, 1, 1);
-        Check.due("LOW 1", x.range(true), 50000);
-        Check.due("greatest bounds", x.bounds(200, 100, 1000, 1000), true);
-        x.set(0);
-        x.gap(1);
-        Check.dueMark("greatest bounds", x, 0, 0, 200, 0, 100, 1);
-        Check.due("LOW 1000", x.range(true), 50);
     }
 }

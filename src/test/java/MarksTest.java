@@ -2,11 +2,9 @@
 final class MarksTest {
     public static void main(String[] args) {
         sets();
-        wrongMarks();
         refillSets();
         wholeMetres();
         fractions();
-        noKilometres();
         Check.finish();
     }
 
@@ -28,23 +26,6 @@ final class MarksTest {
             int n = 4 - k;
             Check.dueMark("set", x, k, n, 61 * n, 2 * n, 12 * n, 4 * n);
         }
-    }
-
-    private static void wrongMarks() {
-        TripReckoner x = new TripReckoner();
-        x.drive(1, 1, 1);
-        int[] none = {-1, 4, 5, Integer.MIN_VALUE, Integer.MAX_VALUE};
-        for (int k : none) {
-            Check.dueNone("mark(" + k + ", 0)", () -> x.mark(k, 0));
-            Check.dueNone("metres(" + k + ")", () -> x.metres(k, false));
-            Check.dueNone("average(" + k + ")", () -> x.average(k, true, 0));
-        }
-        int[] what = {-1, 5, Integer.MIN_VALUE, Integer.MAX_VALUE};
-        for (int w : what) {
-            Check.dueNone("mark(0, " + w + ")", () -> x.mark(0, w));
-            Check.dueNone("average(0, true, " + w + ")", () -> x.average(0, true, w));
-        }
-        Check.dueNone("average(0, true, 2)", () -> x.average(0, true, 2));
     }
 
     private static void refillSets() {
@@ -83,30 +64,25 @@ final class MarksTest {
         Check.due("the most there may be", x.metres(0, true), 1000000000L);
     }
 
-    private static void dueAverage(String what, TripReckoner x, boolean greatest, long upper, long lower) {
-        Check.due(what + " upper", x.average(0, greatest, 0), upper);
-        Check.due(what + " lower", x.average(0, greatest, 1), lower);
-    }
-
     private static void fractions() {
         TripReckoner x = new TripReckoner();
         x.car(50000, 25, 15);
         x.drive(15646, 10000, 73);
         x.drive(0, 178, 1);
-        dueAverage("no whole metres", x, false, 20356000, 7823);
-        dueAverage("without a gap both are one", x, true, 20356000, 7823);
+        Check.dueAverage("no whole metres", x, false, 20356000, 7823);
+        Check.dueAverage("without a gap both are one", x, true, 20356000, 7823);
         x.set(0);
         x.drive(100, 0, 1);
-        dueAverage("0 is 0 by 1", x, false, 0, 1);
-        dueAverage("0 is 0 by 1", x, true, 0, 1);
+        Check.dueAverage("0 is 0 by 1", x, false, 0, 1);
+        Check.dueAverage("0 is 0 by 1", x, true, 0, 1);
         x.set(0);
         // 100 pulses are 25 metres, a kilometre 4000 pulses.
         x.drive(4000, 90, 60);
-        dueAverage("a whole number", x, false, 90, 1);
+        Check.dueAverage("a whole number", x, false, 90, 1);
         x.gap(10);
         // 600 pulses and 100 ml more at most.
-        dueAverage("least", x, false, 1800, 23);
-        dueAverage("greatest", x, true, 190, 1);
+        Check.dueAverage("least", x, false, 1800, 23);
+        Check.dueAverage("greatest", x, true, 190, 1);
         x.car(50000, 1000, 15);
         x.bounds(1, 100, 1, 1);
         x.drive(3, 1, 1);
@@ -114,26 +90,8 @@ final class MarksTest {
             x.gap(36000);
         }
         // 720000001 ml by 30 metres.
-        dueAverage("great numbers", x, true, 72000000100L, 3);
+        Check.dueAverage("great numbers", x, true, 72000000100L, 3);
         // 1 ml by 72000030 metres.
-        dueAverage("small ones", x, false, 100, 7200003);
-    }
-
-    private static void noKilometres() {
-        TripReckoner x = new TripReckoner();
-        Check.dueNone("least, nothing driven", () -> x.average(0, false, 0));
-        Check.dueNone("greatest, nothing driven", () -> x.average(0, true, 1));
-        x.drive(0, 100, 5);
-        Check.dueNone("least, no pulses", () -> x.average(0, false, 1));
-        Check.dueNone("greatest, no pulses", () -> x.average(0, true, 0));
-        x.gap(1);
-        // 60 pulses are 12 metres at most.
-        dueAverage("least, a gap", x, false, 25000, 3);
-        Check.dueNone("greatest, a gap alone", () -> x.average(0, true, 0));
-        x.drive(1, 0, 1);
-        dueAverage("greatest, a pulse", x, true, 550000, 1);
-        x.car(50000, 1, 10);
-        x.drive(1, 1, 1);
-        dueAverage("the shortest way", x, true, 100000, 1);
+        Check.dueAverage("small ones", x, false, 100, 7200003);
     }
 }
