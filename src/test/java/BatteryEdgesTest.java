@@ -77,6 +77,12 @@ final class BatteryEdgesTest {
 
     private static void atTheBeginning() {
         Check.sentence("KEPT (at first: at the beginning)");
+        TripReckoner untouched = new TripReckoner();
+        untouched.tells(20);
+        untouched.tells(200);
+        untouched.dead(1);
+        Check.dueSpan("0 and CAP of a new object", untouched, 0, 50000);
+        Check.due("no refill of a new object", untouched.count(0), 0);
         TripReckoner x = Cars.plain();
         x.tells(0);
         Cars.fill(x, 31);

@@ -20,6 +20,7 @@ final class CountTest {
         Check.due("lies", x.count(2), 4);
         Check.due("jumps", x.count(3), 1);
         Check.due("bytes", x.count(4), 7);
+        Check.sentence("Promise 21: NONE for another what");
         int[] none = {-1, 5, 6, Integer.MIN_VALUE, Integer.MAX_VALUE};
         for (int what : none) {
             Check.due("count(" + what + ")", x.count(what), TripReckoner.NONE);

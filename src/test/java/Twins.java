@@ -18,7 +18,13 @@ final class Twins {
         x -> { },
         x -> x.gap(7),
         x -> x.drive(321, 123, 4),
-        x -> nearFloats(x),
+        x -> floats(x),
+        x -> {
+            // In the span of the past that has most behind it, so that its refill is settled.
+            x.drive(0, 400, 1);
+            x.tells(166);
+            x.tells(155);
+        },
         x -> x.tells(0),
         x -> x.tells(255),
         x -> x.dead(3),
@@ -80,8 +86,8 @@ final class Twins {
         return x;
     }
 
-    /** Floats round the middle of the span, so that most of them lie in it. */
-    private static void nearFloats(TripReckoner x) {
+    /** Refills and losses, each of them settled or not by a float behind it. */
+    private static void floats(TripReckoner x) {
         for (int v = 60; v <= 200; v += 20) {
             x.tells(v);
             x.tells(v + 1);
