@@ -31,7 +31,6 @@ public final class TripReckoner {
     private int floatSlop = 10;
     private int fastest = 60;
     private int thirstiest = 10;
-    // Both are divisors: checkedBounds lets nothing below 1 in.
     private int lowUse = 40;
     private int highUse = 120;
     // No part of the ledger, since a dead battery does not take it back.
@@ -176,7 +175,7 @@ public final class TripReckoner {
     }
 
     public int range(boolean greatest) {
-        return greatest ? now.spanGreatest / lowUse : now.spanLeast / highUse;
+        return greatest ? kilometresOn(now.spanGreatest, lowUse) : kilometresOn(now.spanLeast, highUse);
     }
 
     public int shown() {
@@ -249,7 +248,12 @@ public final class TripReckoner {
         return now.marked(k, greatest ? PULSES_MOST : PULSES_LEAST) * metresPerHundred;
     }
 
-    /** Of a number of 1 or more and one of 0 or more: 1 at least. */
+    private static int kilometresOn(int fuel, int use) {
+        // BOUNDS let nothing below 1 in; looked at all the same, since it divides.
+        return use < 1 ? 0 : fuel / use;
+    }
+
+    /** Of two numbers of 0 or more: 1 at least, since it divides. */
     private static long commonDivisor(long first, long second) {
         long a = first;
         long b = second;
@@ -259,7 +263,7 @@ public final class TripReckoner {
             a = b;
             b = rest;
         }
-        return a;
+        return Math.max(1L, a);
     }
 
     /** All that a dead battery takes back to what was kept. */
@@ -530,7 +534,8 @@ public final class TripReckoner {
 
         private void buyForwards(int firstLitres) {
             int litres = firstLitres;
-            for (int station = 0; station < stations; station++) {
+            // A route with a cost never leaves the row; litres is looked at since it is an index.
+            for (int station = 0; station < stations && within(litres, 0, MOST_LITRES); station++) {
                 int fill = fillTo[station * (MOST_LITRES + 1) + litres];
                 bought[station] = fill - litres;
                 litres = fill - legs[station + 1];

@@ -50,6 +50,37 @@ final class Cars {
         return x;
     }
 
+    /** A refill that settles, a loss, a lie, jumps, marks, gaps, what was kept, a plan and a tape. */
+    static void rich(TripReckoner x) {
+        x.car(40000, 33, 7);
+        x.bounds(50, 9, 45, 110);
+        x.tells(60);
+        x.drive(1000, 300, 70);
+        x.tells(180);
+        x.set(1);
+        x.gap(20);
+        planOf(x, 90, 7, 200, 5, 250, 9, 255);
+        x.keep();
+        x.drive(800, 250, 60);
+        x.tells(90);
+        x.set(2);
+        x.tells(3);
+        x.drive(40, 10000, 9);
+        x.tells(160);
+        x.drive(500, 200, 30);
+        x.tells(163);
+        lay(x, 50, 7, 60, 5, 70);
+    }
+
+    /** The sum of pulses is the greatest that is taken. */
+    static void atTheLimit(TripReckoner x) {
+        x.bounds(200, 1, 1, 1);
+        for (int i = 0; i < 13; i++) {
+            x.gap(36000);
+        }
+        x.gap(32000);
+    }
+
     static int[] copies(int value, int times) {
         int[] bytes = new int[times];
         java.util.Arrays.fill(bytes, value);

@@ -11,19 +11,21 @@ final class FaceTest {
         "int feed(int, int, int, int, int)", "boolean end(int)", "boolean car(int, int, int)",
         "boolean bounds(int, int, int, int)", "boolean drive(int, int, int)", "boolean gap(int)",
         "int tells(int)", "boolean set(int)", "void keep()", "boolean dead(int)", "int span(boolean)",
-        "long mark(int, int)", "long metres(int, boolean)", "long average(int, boolean, int)",
-        "int range(boolean)", "int shown()", "int refill(int, boolean)", "int plan()", "int buys(int)",
-        "int count(int)"};
+        "long mark(int, int) throws NoSuchElementException", "long metres(int, boolean) throws NoSuchElementException",
+        "long average(int, boolean, int) throws NoSuchElementException", "int range(boolean)", "int shown()",
+        "int refill(int, boolean) throws NoSuchElementException", "int plan()", "int buys(int)", "int count(int)"};
 
     public static void main(String[] args) {
         methods();
         fields();
+        inside();
         Constructor<?>[] all = TripReckoner.class.getDeclaredConstructors();
         Check.due("constructors", all.length, 1);
         Check.due("the constructor is public", Modifier.isPublic(all[0].getModifiers()), true);
         Check.due("its parameters", all[0].getParameterCount(), 0);
         Check.due("the class is final", Modifier.isFinal(TripReckoner.class.getModifiers()), true);
         Check.due("NONE", TripReckoner.NONE, -1);
+        Check.due("no package", TripReckoner.class.getPackageName(), "");
         Check.finish();
     }
 
@@ -61,11 +63,32 @@ final class FaceTest {
         }
     }
 
+    /** Nothing of the classes inside is seen from without. */
+    private static void inside() {
+        for (Class<?> type : TripReckoner.class.getDeclaredClasses()) {
+            String name = type.getSimpleName();
+            Check.due(name + " is static", Modifier.isStatic(type.getModifiers()), true);
+            Check.due(name + " is private", Modifier.isPrivate(type.getModifiers()), true);
+            for (Field f : type.getDeclaredFields()) {
+                Check.due(name + "." + f.getName() + " is private", Modifier.isPrivate(f.getModifiers()), true);
+                boolean changing = Modifier.isStatic(f.getModifiers()) && !Modifier.isFinal(f.getModifiers());
+                Check.due(name + "." + f.getName() + " is static and changes", changing, false);
+            }
+            for (Method m : type.getDeclaredMethods()) {
+                Check.due(name + "." + m.getName() + " is private", Modifier.isPrivate(m.getModifiers()), true);
+            }
+        }
+    }
+
     private static String told(Method m) {
         StringBuilder text = new StringBuilder();
         for (Class<?> type : m.getParameterTypes()) {
             text.append(text.length() == 0 ? "" : ", ").append(type.getSimpleName());
         }
-        return m.getReturnType().getSimpleName() + " " + m.getName() + "(" + text + ")";
+        String told = m.getReturnType().getSimpleName() + " " + m.getName() + "(" + text + ")";
+        for (Class<?> type : m.getExceptionTypes()) {
+            told += " throws " + type.getSimpleName();
+        }
+        return told;
     }
 }

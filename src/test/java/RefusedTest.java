@@ -4,8 +4,7 @@ final class RefusedTest {
     private static final int MAX = Integer.MAX_VALUE;
 
     public static void main(String[] args) {
-        Twins.Step[] pasts = {x -> { }, RefusedTest::rich, x -> Cars.fill(x, 33), RefusedTest::atTheLimit};
-        for (Twins.Step past : pasts) {
+        for (Twins.Step past : Twins.PASTS) {
             cars(past);
             bounds(past);
             drives(past);
@@ -23,36 +22,6 @@ final class RefusedTest {
         refills();
         plans();
         Check.finish();
-    }
-
-    /** A refill that settles, a loss, a lie, jumps, marks, gaps, what was kept, a plan and a tape. */
-    private static void rich(TripReckoner x) {
-        x.car(40000, 33, 7);
-        x.bounds(50, 9, 45, 110);
-        x.tells(60);
-        x.drive(1000, 300, 70);
-        x.tells(180);
-        x.set(1);
-        x.gap(20);
-        Cars.planOf(x, 90, 7, 200, 5, 250, 9, 255);
-        x.keep();
-        x.drive(800, 250, 60);
-        x.tells(90);
-        x.set(2);
-        x.tells(3);
-        x.drive(40, 10000, 9);
-        x.tells(160);
-        x.drive(500, 200, 30);
-        x.tells(163);
-        Cars.lay(x, 50, 7, 60, 5, 70);
-    }
-
-    private static void atTheLimit(TripReckoner x) {
-        x.bounds(200, 1, 1, 1);
-        for (int i = 0; i < 13; i++) {
-            x.gap(36000);
-        }
-        x.gap(32000);
     }
 
     private static void cars(Twins.Step past) {
@@ -190,7 +159,7 @@ final class RefusedTest {
     private static void pulsesLimit() {
         Check.sentence("or PULSES, at most, since the beginning would be above 100000000");
         Twins.Step past = x -> {
-            atTheLimit(x);
+            Cars.atTheLimit(x);
             x.keep();
             x.tells(100);
         };

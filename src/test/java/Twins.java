@@ -13,6 +13,9 @@ final class Twins {
 
     static final String THROWS = "java.util.NoSuchElementException";
 
+    /** With nothing, much, many refills and the most pulses behind them. */
+    static final Step[] PASTS = {x -> { }, Cars::rich, x -> Cars.fill(x, 33), Cars::atTheLimit};
+
     /** Each of them lets another part of what an object holds be seen. */
     private static final Step[] GO_ON = {
         x -> { },
@@ -107,7 +110,7 @@ final class Twins {
         }
     }
 
-    /** All that an object answers by now, in at most 200 calls. */
+    /** All that an object answers by now, in at most 140 calls. */
     static String told(TripReckoner x) {
         StringBuilder all = new StringBuilder();
         all.append("span ").append(x.span(false)).append(' ').append(x.span(true));
@@ -120,7 +123,8 @@ final class Twins {
             tellMark(x, k, all);
         }
         all.append(" refills");
-        for (int k = Math.max(0, x.count(0) - 31); k <= x.count(0); k++) {
+        int refills = x.count(0);
+        for (int k = Math.max(0, refills - 31); k <= refills; k++) {
             int number = k;
             all.append(' ').append(Check.answerOf(() -> x.refill(number, false)));
             all.append(' ').append(Check.answerOf(() -> x.refill(number, true)));
@@ -130,6 +134,11 @@ final class Twins {
             all.append(' ').append(x.buys(i));
         }
         return all.toString();
+    }
+
+    /** The same, by parts: "span ..", "range ..", "shown ..", "count0 ..", "mark0 ..", "refills ..", "buys ..". */
+    static String[] parts(TripReckoner x) {
+        return told(x).split(" (?=range|shown|count|mark|refills|buys)");
     }
 
     private static void tellMark(TripReckoner x, int k, StringBuilder all) {
